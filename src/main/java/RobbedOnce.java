@@ -126,17 +126,7 @@ public final class RobbedOnce {
     // ---- what is done
 
     public int nights(int n) {
-        if (!isWithin(n, 1, MOST_NIGHTS)) {
-            return BAD;
-        }
-        if (now.night > LAST_NIGHT - n) {
-            return FULL;
-        }
-        for (int i = 0; i < n; i++) {
-            past.keep(now);
-            now.pass(0);
-        }
-        return now.sworn;
+        return spend(n, false);
     }
 
     public int show(int apprentice, int is) {
@@ -165,18 +155,7 @@ public final class RobbedOnce {
     }
 
     public int drift(int n) {
-        if (!isWithin(n, 1, MOST_NIGHTS)) {
-            return BAD;
-        }
-        if (now.night > LAST_NIGHT - n) {
-            return FULL;
-        }
-        for (int i = 0; i < n; i++) {
-            past.keep(now);
-            now.drawWhoShows();
-            now.pass(0);
-        }
-        return now.sworn;
+        return spend(n, true);
     }
 
     public int undo() {
@@ -394,6 +373,23 @@ public final class RobbedOnce {
 
     // ---- what all of it uses
 
+    private int spend(int n, boolean drifting) {
+        if (!isWithin(n, 1, MOST_NIGHTS)) {
+            return BAD;
+        }
+        if (now.night > LAST_NIGHT - n) {
+            return FULL;
+        }
+        for (int i = 0; i < n; i++) {
+            past.keep(now);
+            if (drifting) {
+                now.drawWhoShows();
+            }
+            now.pass(0);
+        }
+        return now.sworn;
+    }
+
     private boolean isApprentice(int a) {
         return a >= 0 && a < now.apprentices;
     }
@@ -415,7 +411,7 @@ public final class RobbedOnce {
     }
 
     private static boolean has(int set, int member) {
-        return (set >> member & 1) == 1;
+        return ((set >> member) & 1) == 1;
     }
 
     private static int power(int base, int exponent) {
@@ -491,7 +487,7 @@ public final class RobbedOnce {
         }
 
         private void setShown(int a, boolean shown) {
-            shows = shown ? shows | 1 << a : shows & ~(1 << a);
+            shows = shown ? shows | (1 << a) : shows & ~(1 << a);
         }
 
         private int everybody() {
@@ -509,7 +505,7 @@ public final class RobbedOnce {
         }
 
         private boolean mayRob(int t, int a) {
-            boolean isOpen = (shows & ~sworn & 1 << a) != 0;
+            boolean isOpen = (shows & ~sworn & (1 << a)) != 0;
             return isOpen && careful[a] <= skill[t] && (wants[t] == ANY_SORT || wants[t] == sort[a]);
         }
 
@@ -597,7 +593,7 @@ public final class RobbedOnce {
         }
 
         private void drawWhoShows() {
-            draw = draw * 1103515245 + 12345 & Integer.MAX_VALUE;
+            draw = (draw * 1103515245 + 12345) & 0x7FFFFFFF;
             if (apprentices > 0) {
                 setShown(draw / 65536 % apprentices, draw / 128 % 2 == 0);
             }
@@ -606,7 +602,7 @@ public final class RobbedOnce {
         /** How many could be robbed at once: what the worst set of thieves must go without (Hall, Ore) is missing. */
         private int mostRobbedAtOnce() {
             int most = thieves;
-            for (int set = 0; set < 1 << thieves; set++) {
+            for (int set = 0; set < (1 << thieves); set++) {
                 int reached = 0;
                 for (int t = 0; t < thieves; t++) {
                     if (has(set, t)) {
@@ -621,7 +617,7 @@ public final class RobbedOnce {
         /** In how many of 10 to the power of thieves ways one is robbed, if each stays at home in c of 10. */
         private int waysRobbed(int a, int c) {
             int ways = 0;
-            for (int atHome = 0; atHome < 1 << thieves; atHome++) {
+            for (int atHome = 0; atHome < (1 << thieves); atHome++) {
                 if (has(robbedTonight(atHome), a)) {
                     int absent = Integer.bitCount(atHome);
                     ways += power(c, absent) * power(10 - c, thieves - absent);
@@ -732,7 +728,7 @@ public final class RobbedOnce {
         private int leastCover(Town now, int a, int n) {
             int others = now.shows & ~(1 << a);
             int best = NONE;
-            for (int set = 0; set < 1 << MOST_APPRENTICES; set++) {
+            for (int set = 0; set < (1 << MOST_APPRENTICES); set++) {
                 boolean fewer = best < 0 || Integer.bitCount(set) < Integer.bitCount(best);
                 if (!fewer || (set & ~others) != 0) {
                     continue;

@@ -144,6 +144,10 @@ public final class ForetoldTest {
         d.due("21: it is sworn", x.cover(2, 1, 0), 0);
         d.due("21: it is sworn", x.cover(2, 1, 1), 0);
         d.due("21: a sworn one has no need to hide", x.cover(0, 1, 1), 2);
+        // To hide 0 and 1 is a lesser set than to hide 3, but that is fewer.
+        RobbedOnce y = Due.townOf("3;c31,r31,d30=15,f10,f00;93,14");
+        d.due("21: the fewest", y.cover(4, 2, 0), 1);
+        d.due("21: the fewest", y.cover(4, 2, 1), 8);
         int[][] bad = {{5, 1, 0}, {-1, 1, 0}, {0, 0, 0}, {0, 41, 0}, {0, 1, 2}, {0, 1, -1}};
         for (int[] b : bad) {
             d.due("21: bad", x.cover(b[0], b[1], b[2]), RobbedOnce.BAD);

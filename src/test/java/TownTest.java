@@ -11,6 +11,7 @@ public final class TownTest {
         at();
         type();
         townStands();
+        townOfEightyLetters();
         townInPlaceOfAll();
         townFaults();
         count();
@@ -165,6 +166,16 @@ public final class TownTest {
         d.due("8: rich", x.of(0, 0), 4);
         d.due("8: no thief is left", x.count(1), 0);
         d.due("8: six and four", Due.readInto(x, "9;p30,p30,p30,p30,p30,p30;54,54,54,54"), 6);
+    }
+
+    private static void townOfEightyLetters() {
+        String blanks = " ".repeat(73);
+        d.due("8: a number up to the last letter", Due.readInto(new RobbedOnce(), blanks + "9;p30=7"), 1);
+        d.due("8: a digit is missing", Due.readInto(new RobbedOnce(), blanks + "10;p30="), -100);
+        RobbedOnce x = Due.townOf(" 10;p30=77");
+        d.due("8: what stood there before counts for nothing", Due.readInto(x, "10;p30=7"), 1);
+        d.due("8: dear", x.of(0, 2), 7);
+        d.due("8: a letter too many is not there", Due.readInto(x, blanks + "10;p30=7"), -100);
     }
 
     private static void townInPlaceOfAll() {

@@ -282,7 +282,7 @@ public final class RobbedOnce {
         return 1;
     }
 
-    // ---- 3 sheets
+    // ---- 3 sheets 0 .. 3: nothing (at first), or a row of a LANE: 0 bytes, 1 shorts, 2 ints, 3 longs, of 0 to 24 items
 
     public int grown(int apprentice, int sheet, int lane, int i, int n, int what) {
         if (!isApprentice(apprentice) || !isSheet(sheet) || !isLane(lane)) {

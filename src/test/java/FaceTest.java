@@ -1,9 +1,14 @@
+import java.io.IOException;
 import java.lang.reflect.Constructor;
 import java.lang.reflect.Field;
 import java.lang.reflect.Method;
 import java.lang.reflect.Modifier;
+import java.nio.file.Files;
+import java.nio.file.Path;
 import java.util.Set;
 import java.util.TreeSet;
+import java.util.regex.Matcher;
+import java.util.regex.Pattern;
 
 /** The public face is the document's, and nothing else of the class can be seen. */
 public final class FaceTest {
@@ -18,8 +23,9 @@ public final class FaceTest {
     private static final String[] CONSTANTS = {"BAD", "NOT", "FULL", "NONE", "NULL", "CAST", "INDEX", "SIZE"};
     private static final int[] VALUES = {-1, -2, -3, -4, -11, -12, -13, -14};
 
-    public static void main(String[] args) throws IllegalAccessException {
+    public static void main(String[] args) throws IllegalAccessException, IOException {
         Due d = new Due();
+        asWritten(d);
         Class<?> c = RobbedOnce.class;
         int open = Modifier.PUBLIC | Modifier.FINAL;
         d.due("public and final", c.getModifiers() & open, open);
@@ -69,5 +75,28 @@ public final class FaceTest {
             }
         }
         d.end();
+    }
+
+    /** The document's face stands in the text word by word and in its order, and so do the words ahead of its parts. */
+    private static void asWritten(Due d) throws IOException {
+        String document = Files.readString(Path.of("../shared/DOC.md"));
+        String text = Files.readString(Path.of("src/main/java/RobbedOnce.java"));
+        Matcher block = Pattern.compile("(?s)```java\\n(.*?)```").matcher(document);
+        d.due("the document has a face", block.find() ? 1 : 0, 1);
+        int place = 0;
+        for (String line : block.group(1).lines().toList()) {
+            String wanted = line.endsWith(");") ? line.substring(0, line.length() - 1) + " {" : line;
+            int found = text.indexOf("\n" + wanted + "\n", place);
+            d.due("as the document has it: " + line, found >= 0 ? 1 : 0, 1);
+            place = Math.max(place, found);
+        }
+        Matcher part = Pattern.compile("Ahead of the calls `(\\w+)`.* the interface says: (.*)\\.").matcher(document);
+        int parts = 0;
+        while (part.find()) {
+            parts++;
+            String wanted = "    // " + part.group(2) + "\n\n    public int " + part.group(1) + "(";
+            d.due("ahead of " + part.group(1) + ": " + part.group(2), text.contains(wanted) ? 1 : 0, 1);
+        }
+        d.due("parts", parts, 4);
     }
 }
